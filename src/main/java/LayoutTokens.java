@@ -12,7 +12,8 @@ public final class LayoutTokens {
     private static final int MOST_TOKENS = 500;
     private static final int MOST_ITEMS = 60;
     private static final int MOST_LETTERS = 3000;
-    private static final int MOST_COMMENTS = 300;
+    /** The shortest COMMENT with an end, two - and the end of the LINE, has three octets. */
+    private static final int MOST_COMMENTS = 200;
     private static final int DEEPEST_COMMENT = 30;
     private static final int GREATEST_CODE = 1114111;
 
@@ -76,7 +77,7 @@ public final class LayoutTokens {
         lexemes = new Lexemes(source);
         comments = new Comments();
         reader = new Reader(source, lexemes, comments);
-        laid = new Laid();
+        laid = new Laid(source);
         layout = new Layout(source, lexemes, laid);
         printer = new Printer(lexemes, laid);
         isRead = false;
@@ -212,10 +213,6 @@ public final class LayoutTokens {
 
     private static boolean isLineEnd(int octet) {
         return octet == 10 || octet == 13;
-    }
-
-    private static boolean isBlankInLine(int octet) {
-        return octet == 32 || octet == 9 || octet == 11 || octet == 12;
     }
 
     private static boolean isBlank(int octet) {
@@ -364,75 +361,68 @@ public final class LayoutTokens {
         }
     }
 
-    /** The LINES of a LITERATE text; the rows have a place more at both ends for the neighbours. */
+    /** Settles how the octets of a LITERATE text count. */
     private static final class LiterateLines {
         private static final int EMPTY_TEXT = 0;
         private static final int FULL_TEXT = 1;
         private static final int CODE = 2;
 
         private final Source source;
-        private final int[] sorts;
-        private final int[] starts;
 
         LiterateLines(Source source) {
             this.source = source;
-            sorts = new int[MOST_OCTETS + 2];
-            starts = new int[MOST_OCTETS + 2];
         }
 
-        /** Settles how the octets count: the size, or a FAULT. */
+        /** The size, or a FAULT. */
         int count() {
-            sortLines();
-            int fault = findFault();
-            if (fault != NONE) {
-                return faultAt(fault);
-            }
-            countOctets();
-            return source.size();
-        }
-
-        private void sortLines() {
-            for (int i = 0; i < sorts.length; i++) {
-                sorts[i] = EMPTY_TEXT;
-            }
-            for (int i = 0; i < source.size(); i++) {
-                int line = source.lineAt(i);
-                if (line < 1 || line > MOST_OCTETS) {
-                    continue;
-                }
-                int octet = source.octetAt(i);
-                if (beginsLine(i)) {
-                    starts[line] = i;
-                    sorts[line] = octet == '>' ? CODE : EMPTY_TEXT;
-                }
-                if (sorts[line] == EMPTY_TEXT && !isBlankInLine(octet) && !isLineEnd(octet)) {
-                    sorts[line] = FULL_TEXT;
-                }
-            }
-        }
-
-        private boolean beginsLine(int place) {
-            return source.lineAt(place) != source.lineAt(place - 1);
-        }
-
-        private int findFault() {
             boolean hasCode = false;
-            for (int line = 1; line <= MOST_OCTETS; line++) {
-                hasCode = hasCode || sorts[line] == CODE;
-                boolean beside = sorts[line - 1] == CODE || sorts[line + 1] == CODE;
-                if (beside && sorts[line] == FULL_TEXT) {
-                    return starts[line];
+            int before = EMPTY_TEXT;
+            int startBefore = 0;
+            int start = 0;
+            for (int n = 0; n < MOST_OCTETS && start < source.size(); n++) {
+                int behind = lineEnd(start);
+                int sort = sortOf(start, behind);
+                if (before == CODE && sort == FULL_TEXT) {
+                    return faultAt(start);
                 }
+                if (before == FULL_TEXT && sort == CODE) {
+                    return faultAt(startBefore);
+                }
+                countLine(start, behind, sort == CODE);
+                hasCode = hasCode || sort == CODE;
+                before = sort;
+                startBefore = start;
+                start = behind;
             }
-            return hasCode ? NONE : source.size();
+            return hasCode ? source.size() : faultAt(source.size());
         }
 
-        private void countOctets() {
-            for (int i = 0; i < source.size(); i++) {
-                int line = source.lineAt(i);
+        /** The place where the next LINE begins. */
+        private int lineEnd(int start) {
+            int behind = start + 1;
+            while (behind < source.size() && source.lineAt(behind) == source.lineAt(start)) {
+                behind++;
+            }
+            return behind;
+        }
+
+        private int sortOf(int start, int behind) {
+            if (source.octetAt(start) == '>') {
+                return CODE;
+            }
+            for (int i = start; i < behind; i++) {
+                if (!isBlank(source.octetAt(i))) {
+                    return FULL_TEXT;
+                }
+            }
+            return EMPTY_TEXT;
+        }
+
+        /** The ends of LINES stay as they are, else the COLUMNS of the next LINE would be lost. */
+        private void countLine(int start, int behind, boolean isCode) {
+            for (int i = start; i < behind; i++) {
                 int octet = source.octetAt(i);
-                boolean isCode = line >= 1 && line <= MOST_OCTETS && sorts[line] == CODE;
-                boolean stays = isLineEnd(octet) || (isCode && !beginsLine(i));
+                boolean stays = isLineEnd(octet) || (isCode && i > start);
                 source.countAs(i, stays ? octet : 32);
             }
         }
@@ -495,7 +485,7 @@ public final class LayoutTokens {
             return addWithSigns(kind, place, behind, first, mark, value);
         }
 
-        /** A token whose SIGNS, from the first on, are kept already; answers the place behind it. */
+        /** A token whose SIGNS are kept already, from first on; answers the place behind it. */
         int addWithSigns(int kind, int place, int behind, int first, int mark, long value) {
             if (count >= 0 && count < MOST_OCTETS) {
                 kinds[count] = kind;
@@ -1013,28 +1003,34 @@ public final class LayoutTokens {
         }
     }
 
-    /** The TOKENS with those PUT IN; a token that was read points to its lexeme. */
+    /**
+     * The TOKENS with those PUT IN; a token that was read points to its lexeme. LINE and COLUMN are
+     * the source's, but for the end: there they stay as they were when it was read, whatever octets
+     * come behind.
+     */
     private static final class Laid {
+        private final Source source;
         private final int[] lexemes;
         private final int[] kinds;
         private final int[] places;
-        private final int[] lines;
-        private final int[] columns;
         private final boolean[] askedOnes;
         private int count;
         private int putInCount;
         private int askedCount;
+        private int end;
+        private int endLine;
 
-        Laid() {
+        Laid(Source source) {
+            this.source = source;
             lexemes = new int[MOST_TOKENS];
             kinds = new int[MOST_TOKENS];
             places = new int[MOST_TOKENS];
-            lines = new int[MOST_TOKENS];
-            columns = new int[MOST_TOKENS];
             askedOnes = new boolean[MOST_TOKENS];
             count = 0;
             putInCount = 0;
             askedCount = 0;
+            end = NONE;
+            endLine = NONE;
         }
 
         void empty() {
@@ -1043,16 +1039,19 @@ public final class LayoutTokens {
             askedCount = 0;
         }
 
+        void keepEnd() {
+            end = source.size();
+            endLine = source.lastLine();
+        }
+
         /** Whether there was room for it. */
-        boolean add(int lexeme, int kind, int place, int line, int column, boolean isAsked) {
+        boolean add(int lexeme, int kind, int place, boolean isAsked) {
             if (count < 0 || count >= MOST_TOKENS) {
                 return false;
             }
             lexemes[count] = lexeme;
             kinds[count] = kind;
             places[count] = place;
-            lines[count] = line;
-            columns[count] = column;
             askedOnes[count] = isAsked;
             count++;
             putInCount += lexeme == NONE ? 1 : 0;
@@ -1089,11 +1088,13 @@ public final class LayoutTokens {
         }
 
         int lineOf(int k) {
-            return has(k) ? lines[k] : NONE;
+            int place = placeOf(k);
+            return place == end ? endLine : source.lineAt(place);
         }
 
         int columnOf(int k) {
-            return has(k) ? columns[k] : NONE;
+            int place = placeOf(k);
+            return place == end ? 0 : source.columnAt(place);
         }
 
         boolean isAsked(int k) {
@@ -1169,7 +1170,7 @@ public final class LayoutTokens {
             } else {
                 endByNeed(mark, k);
             }
-            boolean hasRoom = laid.add(k, lexemes.kindOf(k), place, line, column, false);
+            boolean hasRoom = laid.add(k, lexemes.kindOf(k), place, false);
             isFaulty = isFaulty || !hasRoom;
             int sort = itemOf(mark);
             if (sort != NONE) {
@@ -1335,7 +1336,7 @@ public final class LayoutTokens {
         }
 
         private void putIn(int kind, boolean isAsked) {
-            boolean hasRoom = laid.add(NONE, kind, place, line, column, isAsked);
+            boolean hasRoom = laid.add(NONE, kind, place, isAsked);
             isFaulty = isFaulty || !hasRoom;
         }
 
@@ -1352,8 +1353,7 @@ public final class LayoutTokens {
 
         private void finish() {
             place = source.size();
-            line = source.lastLine();
-            column = 0;
+            laid.keepEnd();
             int last = lexemes.count() - 1;
             if (last < 0 || isOpener(lexemes.markOf(last))) {
                 putIn(PUT_OPEN, false);
@@ -1365,7 +1365,7 @@ public final class LayoutTokens {
         }
     }
 
-    /** Writes the TOKENS; they are measured first, since a print() that is refused keeps the old. */
+    /** Writes the TOKENS, measured first: a print() that is refused leaves the old letters. */
     private static final class Printer {
         private final Lexemes lexemes;
         private final Laid laid;
