@@ -737,25 +737,26 @@ public final class LayoutTokens {
 
         private int wordAt(int at, int behind) {
             for (int k = 0; k < WORD_COUNT; k++) {
-                if (isField(WORDS, k * WORD_FIELD, WORD_FIELD, at, behind)) {
+                if (isWord(k, at, behind)) {
                     return k;
                 }
             }
             return NONE;
         }
 
-        /** Whether the octets from at on are just the letters of a field, up to its blanks. */
-        private boolean isField(String fields, int first, int width, int at, int behind) {
+        private boolean isWord(int k, int at, int behind) {
+            int first = k * WORD_FIELD;
             int size = behind - at;
-            if (size < 1 || size >= width || first < 0 || first + size >= fields.length()) {
+            boolean fits = size > 0 && size < WORD_FIELD;
+            if (!fits || first < 0 || first + size >= WORDS.length()) {
                 return false;
             }
             for (int i = 0; i < size; i++) {
-                if (fields.charAt(first + i) != source.countedAt(at + i)) {
+                if (WORDS.charAt(first + i) != source.countedAt(at + i)) {
                     return false;
                 }
             }
-            return fields.charAt(first + size) == ' ';
+            return WORDS.charAt(first + size) == ' ';
         }
 
         /** A large NAME, or the QUALIFIED one that begins with it. */

@@ -75,7 +75,7 @@ final class Checks {
         return answer;
     }
 
-    /** Each token as kind:signs, those PUT IN as { ; } and } of one that was ASKED as }?. */
+    /** Each token as kind:signs, those PUT IN as { ; } and with a ? behind it if it was ASKED. */
     static String shown(LayoutTokens x) {
         StringBuilder all = new StringBuilder();
         for (int k = 0; k < x.told(1); k++) {
@@ -86,10 +86,11 @@ final class Checks {
 
     private static String shown(LayoutTokens x, int k) {
         int kind = x.token(k, 0);
+        String shown = kind + ":" + signs(x, k);
         if (kind >= 14) {
-            return kind == 14 ? "{" : kind == 15 ? ";" : x.asked(k) ? "}?" : "}";
+            shown = kind == 14 ? "{" : kind == 15 ? ";" : "}";
         }
-        return kind + ":" + signs(x, k);
+        return x.asked(k) ? shown + "?" : shown;
     }
 
     static String signs(LayoutTokens x, int k) {

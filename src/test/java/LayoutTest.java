@@ -82,6 +82,8 @@ public final class LayoutTest {
         CHECKS.dueTokens("let a = let b in c in d", "{ 2:let { 0:a 5:= 2:let { 0:b }? 2:in 0:c }? 2:in 0:d }");
         CHECKS.dueTokens("let a = let b\n   in c\nin d", "{ 2:let { 0:a 5:= 2:let { 0:b } 2:in 0:c } 2:in 0:d }");
         CHECKS.dueTokens("let a = (b in c", "{ 2:let { 0:a 5:= 13:( 0:b 2:in 0:c");
+        CHECKS.dueTokens("module let a in b", "2:module 2:let { 0:a }? 2:in 0:b");
+        CHECKS.dueTokens("let a = let\n    in b", "{ 2:let { 0:a 5:= 2:let { } ; 2:in 0:b } }");
         CHECKS.dueTokens("do a in b", "{ 2:do { 0:a 2:in 0:b } }");
         CHECKS.dueTokens("do\n  let a = do\n        b\n  in c",
                 "{ 2:do { 2:let { 0:a 5:= 2:do { 0:b } } 2:in 0:c } }");
@@ -95,6 +97,7 @@ public final class LayoutTest {
                 "{ 2:let { 0:a 5:= 2:let 13:{ 0:b 13:} 2:in 0:c }? 2:in 0:d }");
         CHECKS.dueTokens("let a = x {b} in c", "{ 2:let { 0:a 5:= 0:x 13:{ 0:b 13:} }? 2:in 0:c }");
         CHECKS.dueTokens("let a = let {b}\n    in c", "{ 2:let { 0:a 5:= 2:let 13:{ 0:b 13:} ; 2:in 0:c } }");
+        CHECKS.dueTokens("let {a in b", "{ 2:let 13:{ 0:a 2:in 0:b");
         CHECKS.dueTokens("do {a\n;b}", "{ 2:do 13:{ 0:a 13:; 0:b 13:} }");
         CHECKS.dueTokens("a do\n{ b }", "{ 0:a 2:do ; 13:{ 0:b 13:} }");
         CHECKS.dueTokens("do { do\na }", "{ 2:do 13:{ 2:do { 0:a }? 13:} }");
@@ -112,6 +115,9 @@ public final class LayoutTest {
         CHECKS.dueTokens("  a \"\\\n\\\"b", "{ 0:a 12: ; 0:b }");
         CHECKS.dueTokens("    a \"\\\n\\\"b", "{ 0:a 12: } 0:b");
         CHECKS.dueTokens("a\n{- -}b\n{--} c", "{ 0:a 0:b 0:c }");
+        CHECKS.dueTokens("a do (\n ) b", "{ 0:a 2:do { 13:( 13:) 0:b } }");
+        CHECKS.dueTokens("a do (\n   ) b", "{ 0:a 2:do { 13:( 13:) 0:b } }");
+        CHECKS.dueTokens("a do (\n )\n b", "{ 0:a 2:do { 13:( 13:) } 0:b }");
         CHECKS.dueTokens("        a\n\tb", "{ 0:a ; 0:b }");
     }
 
@@ -144,6 +150,10 @@ public final class LayoutTest {
             CHECKS.due("SIGNS of " + row[0], x.token(row[0], 5), 0);
         }
         CHECKS.due("told(2)", x.told(2), 5);
+        LayoutTokens y = new LayoutTokens();
+        y.read(false);
+        CHECKS.due("LINE without octets", y.token(0, 3), 1);
+        CHECKS.due("COLUMN without octets", y.token(1, 4), 0);
     }
 
     private static void asked() {

@@ -21,6 +21,7 @@ public final class NamesTest {
         CHECKS.dueTokens("module let{do{of{where{", "2:module 2:let 13:{ 2:do 13:{ 2:of 13:{ 2:where 13:{");
         CHECKS.dueTokens("cas cases case' Case infixs instances",
                 "{ 0:cas 0:cases 0:case' 1:Case 0:infixs 0:instances }");
+        CHECKS.dueTokens("azAZ09_' zaZA Az0 Z9", "{ 0:azAZ09_' 0:zaZA 1:Az0 1:Z9 }");
         CHECKS.dueTokens("derivingx i whe wheres", "{ 0:derivingx 0:i 0:whe 0:wheres }");
     }
 
@@ -32,6 +33,7 @@ public final class NamesTest {
         CHECKS.dueTokens(":+ ::: :| ... <-- ->> == || \\\\ ~~ @@ <= =>> .= |-- --> --|",
                 "{ 4::+ 4:::: 4::| 3:... 3:<-- 3:->> 3:== 3:|| 3:\\\\ 3:~~ 3:@@ 3:<= 3:=>> 3:.= "
                 + "3:|-- 3:--> 3:--| }");
+        CHECKS.dueTokens("-+ +> :> <> <+ => >= >- .: :. =<", "{ 3:-+ 3:+> 4::> 3:<> 3:<+ 5:=> 3:>= 3:>- 3:.: 4::. 3:=< }");
         CHECKS.dueTokens("a+b-c", "{ 0:a 3:+ 0:b 3:- 0:c }");
     }
 
