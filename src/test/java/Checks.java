@@ -36,9 +36,15 @@ final class Checks {
     }
 
     void dueTokens(String text, String want) {
-        LayoutTokens x = of(text);
-        int count = x.read(false);
-        due("tokens of " + quoted(text), count < 0 ? "fault " + (-2 - count) : shown(x), want);
+        due("tokens of " + quoted(text), tokensOf(text, false), want);
+    }
+
+    void dueLiterate(String text, String want) {
+        due("tokens of LITERATE " + quoted(text), tokensOf(text, true), want);
+    }
+
+    void dueLiterateFault(String text, int place) {
+        due("read of LITERATE " + quoted(text), of(text).read(true), -2L - place);
     }
 
     void duePrint(String text, String want) {
@@ -52,6 +58,19 @@ final class Checks {
         if (wrong != 0 || made == 0) {
             System.exit(1);
         }
+    }
+
+    private static String tokensOf(String text, boolean literate) {
+        LayoutTokens x = of(text);
+        int count = x.read(literate);
+        return count < 0 ? "fault " + (-2 - count) : shown(x);
+    }
+
+    /** A new object with that text, read already. */
+    static LayoutTokens readOf(String text) {
+        LayoutTokens x = of(text);
+        x.read(false);
+        return x;
     }
 
     static LayoutTokens of(String text) {
@@ -115,6 +134,30 @@ final class Checks {
         StringBuilder all = new StringBuilder();
         for (int i = 0; i < count; i++) {
             all.append((char) x.letter(i));
+        }
+        return all.toString();
+    }
+
+    /** All that can be asked of an object, so that two moments can be held against each other. */
+    static String state(LayoutTokens x) {
+        StringBuilder all = new StringBuilder();
+        for (int what = 0; what <= 6; what++) {
+            all.append(x.told(what)).append(' ');
+        }
+        for (int k = 0; k <= x.told(1); k++) {
+            for (int what = 0; what <= 5; what++) {
+                all.append(x.token(k, what)).append(' ');
+            }
+            all.append(signs(x, k)).append(' ').append(x.number(k)).append(x.asked(k)).append('\n');
+        }
+        for (int k = 0; k <= x.told(4); k++) {
+            all.append(x.comment(k, 0)).append(' ').append(x.comment(k, 1)).append(' ').append(x.comment(k, 2)).append('\n');
+        }
+        for (int place = 0; place <= x.told(0); place++) {
+            all.append(x.column(place)).append(' ');
+        }
+        for (int i = 0; i == 0 || x.letter(i - 1) >= 0; i++) {
+            all.append(x.letter(i)).append(' ');
         }
         return all.toString();
     }

@@ -11,12 +11,12 @@ public final class LiterateTest {
     }
 
     private static void codeAndText() {
-        dueTokens("> a", "{ 0:a }");
-        dueTokens(">a", "{ 0:a }");
-        dueTokens("Text (' \"\u00ff {-\n\n> a\n>  b\n\nmore", "{ 0:a 0:b }");
-        dueTokens("text\r\r> a\r\n> b\r\n \t\u000b\u000c\r\nmore", "{ 0:a ; 0:b }");
-        dueTokens(">", "{ }");
-        dueTokens("> a > b\n>> c", "{ 0:a 3:> 0:b } 3:> 0:c");
+        CHECKS.dueLiterate("> a", "{ 0:a }");
+        CHECKS.dueLiterate(">a", "{ 0:a }");
+        CHECKS.dueLiterate("Text (' \"\u00ff {-\n\n> a\n>  b\n\nmore", "{ 0:a 0:b }");
+        CHECKS.dueLiterate("text\r\r> a\r\n> b\r\n \t\u000b\u000c\r\nmore", "{ 0:a ; 0:b }");
+        CHECKS.dueLiterate(">", "{ }");
+        CHECKS.dueLiterate("> a > b\n>> c", "{ 0:a 3:> 0:b } 3:> 0:c");
         CHECKS.dueTokens("> a", "{ 3:> 0:a }");
     }
 
@@ -32,39 +32,29 @@ public final class LiterateTest {
     }
 
     private static void faults() {
-        dueFault("", 0);
-        dueFault("abc\n", 4);
-        dueFault(" > a", 4);
-        dueFault("text\n> a", 0);
-        dueFault("> a\n  text", 4);
-        dueFault("one\n\n> a\ntext\n> b\ntext", 9);
-        dueFault("one\ntwo\n> a\nthree", 4);
-        dueFault("> a\r\ntext", 5);
-        dueFault("> a\rtext", 4);
-        dueFault("> a\n\u0000", 4);
-        dueFault("> \u0001\ntext", 4);
-        dueFault("> \u0001\n\ntext", 2);
-        dueFault("> a\n\n> }", 7);
+        CHECKS.dueLiterateFault("", 0);
+        CHECKS.dueLiterateFault("abc\n", 4);
+        CHECKS.dueLiterateFault(" > a", 4);
+        CHECKS.dueLiterateFault("text\n> a", 0);
+        CHECKS.dueLiterateFault("> a\n  text", 4);
+        CHECKS.dueLiterateFault("one\n\n> a\ntext\n> b\ntext", 9);
+        CHECKS.dueLiterateFault("one\ntwo\n> a\nthree", 4);
+        CHECKS.dueLiterateFault("> a\r\ntext", 5);
+        CHECKS.dueLiterateFault("> a\rtext", 4);
+        CHECKS.dueLiterateFault("> a\n\u0000", 4);
+        CHECKS.dueLiterateFault("> \u0001\ntext", 4);
+        CHECKS.dueLiterateFault("> \u0001\n\ntext", 2);
+        CHECKS.dueLiterateFault("> a\n\n> }", 7);
     }
 
     private static void acrossLines() {
-        dueTokens("> a {-\n\n-}\n\n> -} b", "{ 0:a 0:b }");
-        dueTokens("> \"a\\\n>\\b\"", "{ 12:97,98 }");
-        dueTokens("> \"a\\\n\ntext\n\n>\\b\"", "{ 12:97,98 }");
+        CHECKS.dueLiterate("> a {-\n\n-}\n\n> -} b", "{ 0:a 0:b }");
+        CHECKS.dueLiterate("> \"a\\\n>\\b\"", "{ 12:97,98 }");
+        CHECKS.dueLiterate("> \"a\\\n\ntext\n\n>\\b\"", "{ 12:97,98 }");
         LayoutTokens x = Checks.of("> a -- b\n>{- c\n> -} d");
         CHECKS.due("read", x.read(true), 4);
         CHECKS.due("first COMMENT", x.comment(0, 1), 4);
         CHECKS.due("second COMMENT", x.comment(1, 0), 10);
         CHECKS.due("its octets", x.comment(1, 1), 9);
-    }
-
-    private static void dueTokens(String text, String want) {
-        LayoutTokens x = Checks.of(text);
-        int count = x.read(true);
-        CHECKS.due("tokens of LITERATE " + text, count < 0 ? "fault " + (-2 - count) : Checks.shown(x), want);
-    }
-
-    private static void dueFault(String text, int place) {
-        CHECKS.due("read of LITERATE " + text, Checks.of(text).read(true), -2 - place);
     }
 }
