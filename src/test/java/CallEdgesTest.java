@@ -11,6 +11,8 @@ public final class CallEdgesTest {
         octetsOutside();
         octetsBehindTheText();
         readAnew();
+        readOverAndOver();
+        readAsANewObjectWould();
         readWithFault();
         tokenOutside();
         tokenOfEveryKind();
@@ -130,6 +132,44 @@ public final class CallEdgesTest {
         Checks.feed(x, "b");
         x.read(false);
         CHECKS.due("depth of the latest", x.told(5), 0);
+    }
+
+    /** What many reads leave behind takes no room from the next one. */
+    private static void readOverAndOver() {
+        String most = Checks.times(100, "a --\n");
+        LayoutTokens x = Checks.of(most);
+        LayoutTokens y = Checks.of(Checks.times(600, "b"));
+        for (int round = 0; round < 20; round++) {
+            CHECKS.due("read", x.read(false), 201);
+            CHECKS.due("COMMENTS", x.told(4), 100);
+            CHECKS.due("the last COMMENT", x.comment(99, 0), 497);
+            CHECKS.due("the last SIGN", x.sign(199, 0), 'a');
+            CHECKS.due("a FAULT", x.read(true), -2 - 500);
+            CHECKS.due("read", y.read(false), 3);
+            CHECKS.due("the last SIGN", y.sign(1, 599), 'b');
+            CHECKS.due("print", y.print(), 604);
+            CHECKS.due("its last letter", y.letter(603), '}');
+        }
+    }
+
+    /** Whatever was read before, and whether it had a FAULT: the next read is that of a new object. */
+    private static void readAsANewObjectWould() {
+        String[] texts = {
+            "a", Checks.times(59, "("), "}", "let {a}", "let a b c in d", "", "{a}}", "'", "{- {- -}",
+            "\n\n  a\n  b", "in", Checks.times(500, ";"), "{ let {", "do\nin", "\"\\1\"", "a do",
+            "if case then", "module", Checks.times(61, "["), "\u0001", "M.where", "-- a\n{- -}",
+        };
+        for (String before : texts) {
+            for (String after : texts) {
+                LayoutTokens x = Checks.of(before);
+                x.read(false);
+                x.clear();
+                Checks.feed(x, after);
+                LayoutTokens fresh = Checks.of(after);
+                CHECKS.due("read of " + after + " behind " + before, x.read(false), fresh.read(false));
+                CHECKS.due("all of " + after + " behind " + before, Checks.state(x), Checks.state(fresh));
+            }
+        }
     }
 
     /** -2 less the place of the FAULT (there are no TOKENS then). */

@@ -1,11 +1,6 @@
 /** Promises 3 and 5: CHARACTERS and TEXTS with their ESCAPES and GAPS, and their FAULTS. */
 public final class QuotesTest {
     private static final Checks CHECKS = new Checks();
-    private static final String[] NAMES = {
-        "NUL", "SOH", "STX", "ETX", "EOT", "ENQ", "ACK", "BEL", "BS", "HT", "LF", "VT", "FF", "CR",
-        "SO", "SI", "DLE", "DC1", "DC2", "DC3", "DC4", "NAK", "SYN", "ETB", "CAN", "EM", "SUB",
-        "ESC", "FS", "GS", "RS", "US", "SP",
-    };
 
     public static void main(String[] args) {
         characters();
@@ -43,11 +38,6 @@ public final class QuotesTest {
     }
 
     private static void names() {
-        for (int code = 0; code < NAMES.length; code++) {
-            CHECKS.dueTokens("'\\" + NAMES[code] + "'", "{ 11:" + code + " }");
-            CHECKS.dueTokens("\"\\" + NAMES[code] + " \\" + NAMES[code] + "x\"",
-                    "{ 12:" + code + ",32," + code + ",120 }");
-        }
         CHECKS.dueTokens("'\\DEL'", "{ 11:127 }");
         CHECKS.dueTokens("\"\\SOH\\SOX\\SO\\&H\\SO\\H\"", "fault 19");
         CHECKS.dueTokens("\"\\SOH\\SOX\\SO\\&H\\SO\\HT\"", "{ 12:1,14,88,14,72,14,9 }");

@@ -372,6 +372,18 @@ public final class TokenEdgesTest {
         CHECKS.dueTokens("1.2.3", "{ 10:1.2 3:. 9:3 }");
         CHECKS.dueTokens("0x1.5 0x1e+5 0b1e5 0o1.5", "{ 9:0x1 3:. 9:5 9:0x1e 3:+ 9:5 9:0b1 0:e5 9:0o1 3:. 9:5 }");
         CHECKS.dueTokens("1.0x1 1e0x1", "{ 10:1.0 0:x1 10:1e0 0:x1 }");
+        for (int octet = 33; octet < 127; octet++) {
+            String part = "" + (char) octet;
+            if (part.equals("'") || part.equals("\"") || part.equals("}")) {
+                continue;
+            }
+            int longer = part.matches("[0-9]") ? 1 : 0;
+            CHECKS.due("octets of 1.0 and " + part, Checks.readOf("1.0" + part).token(1, 2), 3 + longer);
+            CHECKS.due("octets of 1e0 and " + part, Checks.readOf("1e0" + part).token(1, 2), 3 + longer);
+            CHECKS.due("octets of 1. and " + part, Checks.readOf("1." + part).token(1, 2), 1 + 2 * longer);
+            CHECKS.due("octets of 1e and " + part, Checks.readOf("1e" + part).token(1, 2), 1 + 2 * longer);
+            CHECKS.due("octets of 1E- and " + part, Checks.readOf("1E-" + part).token(1, 2), 1 + 3 * longer);
+        }
         CHECKS.due("597 figures behind it", Checks.readOf("1." + Checks.times(598, "2")).token(1, 5), 600);
         CHECKS.due("the value of kind 10", Checks.readOf("12.5").number(1), 0L);
     }
