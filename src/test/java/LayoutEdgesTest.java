@@ -23,6 +23,7 @@ public final class LayoutEdgesTest {
         sameColumnForIn();
         needs();
         needsNotMet();
+        everyNeedAndItem();
         needsGoAway();
         commaTakesNothingAway();
         braceWithoutItem();
@@ -219,6 +220,26 @@ public final class LayoutEdgesTest {
         CHECKS.dueTokens("case do a then b", "{ 2:case 2:do { 0:a 2:then 0:b");
         CHECKS.dueTokens("case do a,b", "{ 2:case 2:do { 0:a 13:, 0:b }");
         CHECKS.dueTokens("then do a,b", "{ 2:then 2:do { 0:a 13:, 0:b }");
+    }
+
+    /** ) ROUND, ] SQUARE, then IF, else THEN, of CASE, } BRACE, the comma ROUND or SQUARE, and no other. */
+    private static void everyNeedAndItem() {
+        String[] tokens = {")", "]", "then", "else", "of", "}", ","};
+        String[] items = {"(", "[", "if", "then", "case", "{"};
+        for (int i = 0; i < tokens.length; i++) {
+            for (int j = 0; j < items.length; j++) {
+                boolean isMet = i == j || i == 6 && j < 2;
+                String text = "a " + items[j] + " do b " + tokens[i];
+                LayoutTokens x = Checks.of(text);
+                int answer = x.read(false);
+                boolean isFault = i == 5 && !isMet;
+                CHECKS.due("FAULT of " + text, answer, isFault ? -2 - (text.length() - 1) : answer);
+                CHECKS.due("TOKENS of " + text, answer >= 0, !isFault);
+                CHECKS.due("ASKED in " + text, x.told(3), isMet ? 1 : 0);
+            }
+        }
+        CHECKS.dueTokens("case do a else b", "{ 2:case 2:do { 0:a 2:else 0:b }");
+        CHECKS.dueTokens("then do a of b", "{ 2:then 2:do { 0:a 2:of { 0:b } }");
     }
 
     /** And it goes away. */
